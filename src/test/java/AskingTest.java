@@ -128,6 +128,12 @@ public final class AskingTest {
         CHECK.due("pleased", x.night(1, 1), 2);
         CHECK.due("stuck(3, NONE)", x.stuck(3, -1), 1);
         CHECK.due("none is taken away", x.count(0), 4);
+        ThirdFavour w = by(0, "001;002;003;004");
+        for (int gone = 0; gone < 4; gone++) {
+            for (int record = 1; record < 5; record++) {
+                CHECK.due("law 0 stuck(" + gone + ", " + record + ")", w.stuck(gone, record), gone == record - 1 ? 0 : 1);
+            }
+        }
         CHECK.due("stuck(4, 0)", x.stuck(4, 0), -2);
         CHECK.due("stuck(-1, 0)", x.stuck(-1, 0), -2);
         CHECK.due("stuck(0, 10)", x.stuck(0, 10), -2);

@@ -6,6 +6,7 @@ public final class CountDigestTest {
         count();
         digestOfNew();
         digests();
+        digestsAtTheMinute();
         CHECK.end();
     }
 
@@ -25,6 +26,10 @@ public final class CountDigestTest {
         }
         x.set(1, 1);
         CHECK.due("plays by law 1", x.count(4), 1);
+        x.scratch(0, 0, 1);
+        CHECK.due("the first RECORD'S first groove counts", x.count(3), 3);
+        x.scratch(9, 8, 1);
+        CHECK.due("the last RECORD'S last groove counts", x.count(3), 4);
         CHECK.due("count(9)", x.count(9), -2);
         CHECK.due("count(-1)", x.count(-1), -2);
         x.type(';');
@@ -79,6 +84,25 @@ public final class CountDigestTest {
             h = 31 * h + v;
         }
         return h;
+    }
+
+    /** Plays that begin or end in just the minutes that the digest tells. */
+    private static void digestsAtTheMinute() {
+        for (String text : new String[] {"032;283", "052;303", "042;293"}) {
+            ThirdFavour x = Check.with(text);
+            x.set(1, 0);
+            CHECK.due("digest() of '" + text + "'", x.digest(), asTold(x));
+        }
+        for (int kick = 10; kick <= 13; kick++) {
+            ThirdFavour x = new ThirdFavour();
+            x.set(1, 0);
+            x.set(0, kick);
+            x.scratch(0, 0, 0);
+            x.record(1, 1);
+            CHECK.due("digest(), first 1, KICK " + kick, x.digest(), asTold(x));
+            x.scratch(1, 0, 0);
+            CHECK.due("digest(), looping 1, KICK " + kick, x.digest(), asTold(x));
+        }
     }
 
     private static void digests() {

@@ -89,6 +89,7 @@ public final class HeardTest {
         CHECK.due("since(3)", x.since(3), 1);
         CHECK.due("since(4)", x.since(4), 2);
         CHECK.due("since(0), never", x.since(0), 4);
+        CHECK.due("since(8) when it was the first", Check.with("008;004;003").since(8), 2);
         CHECK.due("since(10)", x.since(10), -2);
         CHECK.due("since(-1)", x.since(-1), -2);
         x.undo();

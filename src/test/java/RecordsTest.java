@@ -103,6 +103,9 @@ public final class RecordsTest {
         x.scratch(2, 1, 4);
         x.scratch(2, 4, 0);
         x.set(0, 8);
+        x.scratch(3, 0, 2);
+        CHECK.due("the arm skips: groove(3, 1)", x.groove(3, 1), 2);
+        CHECK.due("it has played: groove(3, 2)", x.groove(3, 2), -1);
         int[] path = {0, 1, 4, 0, 1, 4, 0, 1, -1, -1};
         for (int m = 0; m < path.length; m++) {
             CHECK.due("groove(2, " + m + ")", x.groove(2, m), path[m]);
@@ -153,6 +156,11 @@ public final class RecordsTest {
         CHECK.due("wax(0, 0)", x.wax(0, 0), 1);
         CHECK.due("wax(0, 1)", x.wax(0, 1), 2);
         CHECK.due("wax takes nothing away", x.loops(0), 1);
+        x.scratch(1, 0, 2);
+        CHECK.due("a scratch that does no harm stays", x.wax(1, 1), 0);
+        x.scratch(2, 0, 1);
+        x.scratch(2, 2, 0);
+        CHECK.due("so does one beside one that does", x.wax(2, 1), 4);
         CHECK.due("wax(0, 2)", x.wax(0, 2), -2);
         CHECK.due("wax(0, -1)", x.wax(0, -1), -2);
         CHECK.due("wax(10, 0)", x.wax(10, 0), -2);
