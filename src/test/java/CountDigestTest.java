@@ -7,6 +7,7 @@ public final class CountDigestTest {
         digestOfNew();
         digests();
         digestsAtTheMinute();
+        digestsOfTheFull();
         CHECK.end();
     }
 
@@ -102,6 +103,35 @@ public final class CountDigestTest {
             CHECK.due("digest(), first 1, KICK " + kick, x.digest(), asTold(x));
             x.scratch(1, 0, 0);
             CHECK.due("digest(), looping 1, KICK " + kick, x.digest(), asTold(x));
+        }
+    }
+
+    /** All RECORDS LONG and SCRATCHED all over, twenty COINS, eight HEARD: what is refused goes in as it is told. */
+    private static void digestsOfTheFull() {
+        StringBuilder text = new StringBuilder("009");
+        for (int i = 1; i < 20; i++) {
+            text.append(";").append(i / 10 * 9).append(i % 10).append(i * 3 % 10);
+        }
+        for (int law = 0; law < 4; law++) {
+            ThirdFavour x = Check.with(text.toString());
+            for (int r = 0; r < 10; r++) {
+                x.record(r, 9);
+                for (int g = 0; g < 9; g++) {
+                    x.scratch(r, g, (g * 5 + r) % 10);
+                }
+            }
+            for (int i = 0; i < 8; i++) {
+                x.heard(i, -1);
+            }
+            x.set(0, 60);
+            x.set(1, law);
+            x.set(2, 1);
+            x.set(3, 0);
+            CHECK.due("FULL in it by " + law, x.ask(99, 1, 110, 0) == -4 || x.ask(99, 1, 110, 0) == 0 ? 1 : 0, 1);
+            CHECK.due("digest() of the full by " + law, x.digest(), asTold(x));
+            x.type(';');
+            CHECK.due("BAD in it", x.stuck(0, -1), -2);
+            CHECK.due("digest() of the full with a FAULT by " + law, x.digest(), asTold(x));
         }
     }
 

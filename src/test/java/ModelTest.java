@@ -2,9 +2,6 @@ import java.util.Random;
 
 /** Fixed random runs of calls, each answer held against the model's. */
 public final class ModelTest {
-    private static final String[] NAMES = {"record", "scratch", "type", "wipe", "fault", "undo", "set", "read",
-        "plays", "groove", "loops", "wax", "coin", "at", "served", "night", "best", "times", "first", "ask", "stuck",
-        "heard", "forget", "laws", "next", "since", "sheet", "lose", "lay", "get", "copy", "write", "count", "digest"};
     /** How many values from 0 on each argument has, where it is well told. */
     private static final int[][] RANGES = {{10, 10}, {10, 9, 10}, {256}, {}, {}, {}, {4, 100}, {4}, {10}, {10, 60},
         {10}, {10, 2}, {20, 2}, {200}, {20, 3}, {4, 3}, {}, {10}, {}, {100, 10, 200, 3}, {20, 10}, {200, 10}, {}, {},
@@ -27,7 +24,7 @@ public final class ModelTest {
             oneRun(run);
         }
         for (int call = 0; call < CALLS; call++) {
-            check.holds(NAMES[call] + " came", came[call] > runs / 6);
+            check.holds(Calls.NAMES[call] + " came", came[call] > runs / 6);
         }
         check.end();
     }
@@ -134,49 +131,6 @@ public final class ModelTest {
     private void compare(int run, ThirdFavour x, Model m, int call, int[] a) {
         came[call]++;
         long due = m.answer(call, a);
-        StringBuilder told = new StringBuilder("run " + run + ": " + NAMES[call] + "(");
-        for (int i = 0; i < RANGES[call].length; i++) {
-            told.append(i == 0 ? "" : ", ").append(a[i]);
-        }
-        check.due(told.append(")").toString(), ask(x, call, a), due);
-    }
-
-    private static long ask(ThirdFavour x, int call, int[] a) {
-        switch (call) {
-            case 0: return x.record(a[0], a[1]);
-            case 1: return x.scratch(a[0], a[1], a[2]);
-            case 2: return x.type(a[0]);
-            case 3: return x.wipe();
-            case 4: return x.fault();
-            case 5: return x.undo();
-            case 6: return x.set(a[0], a[1]);
-            case 7: return x.read(a[0]);
-            case 8: return x.plays(a[0]);
-            case 9: return x.groove(a[0], a[1]);
-            case 10: return x.loops(a[0]);
-            case 11: return x.wax(a[0], a[1]);
-            case 12: return x.coin(a[0], a[1]);
-            case 13: return x.at(a[0]);
-            case 14: return x.served(a[0], a[1]);
-            case 15: return x.night(a[0], a[1]);
-            case 16: return x.best();
-            case 17: return x.times(a[0]);
-            case 18: return x.first();
-            case 19: return x.ask(a[0], a[1], a[2], a[3]);
-            case 20: return x.stuck(a[0], a[1]);
-            case 21: return x.heard(a[0], a[1]);
-            case 22: return x.forget();
-            case 23: return x.laws();
-            case 24: return x.next(a[0], a[1]);
-            case 25: return x.since(a[0]);
-            case 26: return x.sheet(a[0], a[1], a[2]);
-            case 27: return x.lose(a[0]);
-            case 28: return x.lay(a[0], a[1], a[2], a[3]);
-            case 29: return x.get(a[0], a[1], a[2]);
-            case 30: return x.copy(a[0], a[1], a[2], a[3], a[4]);
-            case 31: return x.write(a[0]);
-            case 32: return x.count(a[0]);
-            default: return x.digest();
-        }
+        check.due("run " + run + ": " + Calls.told(call, a), Calls.answer(x, call, a), due);
     }
 }
